@@ -475,7 +475,7 @@ public final class KeyframeCourt {
             int last = next > start ? next - 1 : start;
             poses[cell] = keys.valueAt(last);
             setters[cell] = keys.setterBit(last);
-            boolean isBetween = next > start && next < end && keys.frameAt(last) < frame;
+            boolean isBetween = next < end && keys.frameAt(last) < frame;
             if (isBetween && keys.isSoft(last)) {
                 poses[cell] += blend(last, next, frame);
                 setters[cell] |= keys.setterBit(next);

@@ -7,6 +7,7 @@ public final class PromiseTests {
     public static void main(String[] args) {
         newObject();
         bone();
+        eightBones();
         boneMakesVoid();
         key();
         keyLimit();
@@ -100,6 +101,22 @@ public final class PromiseTests {
         A.isMissing("2 parent highest", () -> c.bone(HIGH, 0, 0));
         A.isMissing("2 parent lowest", () -> c.bone(LOW, 0, 0));
         A.is("2 offset of the first", 10000 * 4900 + 5100, () -> c.place(0, 0));
+    }
+
+    private static void eightBones() {
+        KeyframeCourt c = withBone();
+        for (int number = 1; number < 8; number++) {
+            c.bone(number - 1, 1, 0);
+        }
+        c.key(7, 2, 0, 1, 4, false);
+        c.key(0, 2, 0, 1, 2, false);
+        c.cut(0, 0, 4);
+        c.machine(5);
+        A.is("9 of eight bones", 1 << 4 | 1 << 2, () -> c.artists(0));
+        A.is("8 of the eighth", at(0, 7), () -> c.place(7, 119));
+        A.is("18 with eight bones", 5000, () -> c.night(1));
+        A.is("3 of the eighth", 5, () -> c.key(7, 2, 119, 0, 4, false) + c.key(7, 2, 0, 2, 4, false));
+        A.is("15 of the eighth", 5, () -> c.voidsByAll());
     }
 
     private static void boneMakesVoid() {
@@ -236,6 +253,9 @@ public final class PromiseTests {
         A.is("5 behind the last", 16, () -> c.value(0, 1, 119));
         A.is("5 another channel", 0, () -> c.value(0, 0, 21));
         A.is("5 another channel", 0, () -> c.value(0, 2, 21));
+        c.key(0, 0, 5, 50, 0, true);
+        A.is("5 a later key of the next channel is nothing", 50, () -> c.value(0, 0, 8));
+        c.unkey(0, 0, 5);
         c.key(0, 0, 0, 200, 0, true);
         c.key(0, 0, 119, -200, 0, true);
         A.is("5 a long way", -197, () -> c.value(0, 0, 118));
@@ -599,6 +619,10 @@ public final class PromiseTests {
         A.is("18 selling until hot", 4, () -> c.night(2));
         A.is("18 19 it rests from selling", 211, () -> c.heat(0));
         A.is("18 a resting one sells not", 1, () -> c.night(1));
+        A.is("18 the other alone", 2, () -> c.night(2));
+        A.is("18 19 9 is more than 8", 91, () -> c.heat(0));
+        A.is("18 the other alone again", 1, () -> c.night(1));
+        A.is("18 19 it rests no more at 5", 50, () -> c.heat(0));
     }
 
     private static void heat() {
@@ -630,6 +654,7 @@ public final class PromiseTests {
         c.key(0, 0, 48, 1, 2, true);
         c.key(0, 0, 60, 1, 3, false);
         A.is("21 no film", 0, () -> c.seconds(1));
+        A.is("21 artist 0", 0, () -> c.seconds(0));
         c.cut(0, 0, 22);
         A.is("21 23 frames", 0, () -> c.seconds(1));
         c.cut(1, 23, 23);
@@ -679,6 +704,11 @@ public final class PromiseTests {
         A.is("22 the void one is not in it", 2000, () -> c.show());
         c.uncut(0);
         A.isNotNow("22 no frame", () -> c.show());
+        c.cut(0, 0, 0);
+        A.is("22 one frame", 0, () -> c.show());
+        c.key(0, 2, 0, 1, 0, false);
+        c.key(0, 2, 1, 0, 0, false);
+        A.isNotNow("22 frame 0 is void", () -> c.show());
     }
 
     private static void money() {
