@@ -39,7 +39,7 @@ public final class KeyframeCourt {
 
     public KeyframeCourt() {
         rig = new Rig();
-        stills = new Stills(rig);
+        stills = new Stills();
         film = new Film();
         farm = new Farm();
         paid = new int[ARTISTS];
@@ -54,7 +54,7 @@ public final class KeyframeCourt {
         mustFit(isWithin(x, -MAX_OFFSET, MAX_OFFSET) && isWithin(y, -MAX_OFFSET, MAX_OFFSET));
         mustBePossible(rig.boneCount() < MAX_BONES);
         int number = rig.addBone(parent, x, y);
-        stills.compareAll();
+        stills.compareAll(rig);
         return number;
     }
 
@@ -68,7 +68,7 @@ public final class KeyframeCourt {
         mustBePossible(rig.hasKey(track, frame) || rig.keyCount() < MAX_KEYS);
         int before = stills.voidCount();
         rig.setKey(track, frame, value, artist, isSoft);
-        stills.compareAll();
+        stills.compareAll(rig);
         return stills.voidCount() - before;
     }
 
@@ -78,7 +78,7 @@ public final class KeyframeCourt {
         mustExist(rig.hasKey(track, frame));
         int before = stills.voidCount();
         rig.takeKey(track, frame);
-        stills.compareAll();
+        stills.compareAll(rig);
         return stills.voidCount() - before;
     }
 
@@ -141,7 +141,7 @@ public final class KeyframeCourt {
     }
 
     public int voidsByAll() {
-        return stills.voidCountByAll();
+        return stills.voidCountByAll(rig);
     }
 
     // ---- machines
@@ -160,7 +160,7 @@ public final class KeyframeCourt {
 
     public int night(int hours) throws IllegalArgumentException {
         mustFit(isWithin(hours, 1, MAX_NIGHT));
-        return farm.passHours(hours, film, stills);
+        return farm.passHours(hours, film, stills, rig);
     }
 
     public int heat(int machine) throws IndexOutOfBoundsException {
@@ -284,7 +284,6 @@ public final class KeyframeCourt {
             return softs[index];
         }
 
-        /** Returns how many keys are ahead of the code. */
         int countAhead(int code) {
             int ahead = 0;
             while (ahead < count && codes[ahead] < code) {
@@ -494,14 +493,9 @@ public final class KeyframeCourt {
 
     /** The frames that were rendered, with the values of which they were made. */
     private static final class Stills {
-        private final Rig rig;
         private final int[] made = new int[MAX_TRACKS * FRAMES];
         private final int[] bonesThen = new int[FRAMES];
         private final int[] standings = new int[FRAMES];
-
-        Stills(Rig rig) {
-            this.rig = rig;
-        }
 
         int standing(int frame) {
             return standings[frame];
@@ -511,7 +505,7 @@ public final class KeyframeCourt {
             return standings[frame] == STANDING;
         }
 
-        void render(int frame) {
+        void render(int frame, Rig rig) {
             for (int track = 0; track < rig.trackCount(); track++) {
                 made[track * FRAMES + frame] = rig.poseAt(track, frame);
             }
@@ -520,10 +514,10 @@ public final class KeyframeCourt {
         }
 
         /** Is due behind each change of bones or keys. */
-        void compareAll() {
+        void compareAll(Rig rig) {
             for (int frame = 0; frame < FRAMES; frame++) {
                 if (standings[frame] != NOT_RENDERED) {
-                    standings[frame] = isAsMade(frame) ? STANDING : VOID;
+                    standings[frame] = isAsMade(frame, rig) ? STANDING : VOID;
                 }
             }
         }
@@ -538,17 +532,17 @@ public final class KeyframeCourt {
             return count;
         }
 
-        int voidCountByAll() {
+        int voidCountByAll(Rig rig) {
             int count = 0;
             for (int frame = 0; frame < FRAMES; frame++) {
-                if (standings[frame] != NOT_RENDERED && !isAsMade(frame)) {
+                if (standings[frame] != NOT_RENDERED && !isAsMade(frame, rig)) {
                     count++;
                 }
             }
             return count;
         }
 
-        private boolean isAsMade(int frame) {
+        private boolean isAsMade(int frame, Rig rig) {
             if (bonesThen[frame] != rig.boneCount()) {
                 return false;
             }
@@ -669,11 +663,11 @@ public final class KeyframeCourt {
         }
 
         /** Returns 1000 for each frame that was rendered and 1 for each hour that was sold. */
-        int passHours(int hours, Film film, Stills stills) {
+        int passHours(int hours, Film film, Stills stills, Rig rig) {
             int gain = 0;
             for (int hour = 0; hour < hours; hour++) {
                 for (int machine = 0; machine < machines; machine++) {
-                    gain += resting[machine] ? rest(machine) : work(machine, film, stills);
+                    gain += resting[machine] ? rest(machine) : work(machine, film, stills, rig);
                 }
             }
             return gain;
@@ -685,8 +679,8 @@ public final class KeyframeCourt {
             return 0;
         }
 
-        private int work(int machine, Film film, Stills stills) {
-            int rendered = render(machine, film, stills);
+        private int work(int machine, Film film, Stills stills, Rig rig) {
+            int rendered = render(machine, film, stills, rig);
             int sold = rendered == 0 ? sell(machine) : 0;
             if (rendered == 0 && sold == 0) {
                 cool(machine);
@@ -695,11 +689,11 @@ public final class KeyframeCourt {
             return 1000 * rendered + sold;
         }
 
-        private int render(int machine, Film film, Stills stills) {
+        private int render(int machine, Film film, Stills stills, Rig rig) {
             int rendered = 0;
             for (int frame = 0; frame < FRAMES && rendered < speeds[machine]; frame++) {
                 if (film.needs(frame) && !stills.stands(frame)) {
-                    stills.render(frame);
+                    stills.render(frame, rig);
                     rendered++;
                 }
             }
