@@ -13,6 +13,7 @@ public final class PromiseTests {
         keyLimit();
         keyVoids();
         unkey();
+        otherKeysStayAsTheyAre();
         value();
         span();
         keyAt();
@@ -28,6 +29,7 @@ public final class PromiseTests {
         nightRenders();
         nightRests();
         nightSells();
+        nightSellsTenOffers();
         heat();
         setRate();
         seconds();
@@ -231,6 +233,27 @@ public final class PromiseTests {
         A.is("4 the value is 0", 0, () -> c.value(0, 0, 119));
         A.is("4 back again up to 10", 90, () -> c.key(0, 0, 10, 8, 0, true));
         A.is("4 stand again", -109, () -> c.key(0, 0, 20, 0, 0, true));
+        c.bone(0, 0, 0);
+        c.key(1, 0, 30, 0, 0, false);
+        A.isMissing("4 channel 3 is not the next bone's first", () -> c.unkey(0, 3, 30));
+        A.isMissing("4 channel -3 is not the last bone's first", () -> c.unkey(1, -3, 20));
+        A.isMissing("4 frame 3030 is not the next bone's", () -> c.unkey(0, 0, 3030));
+    }
+
+    private static void otherKeysStayAsTheyAre() {
+        KeyframeCourt c = withBone();
+        c.key(0, 0, 20, 10, 1, true);
+        c.key(0, 0, 30, 20, 2, false);
+        c.key(0, 0, 10, 0, 3, false);
+        A.is("3 9 the artist of a later key", 1 << 1, () -> c.artists(20));
+        A.is("3 9 the artist of the last key", 1 << 2, () -> c.artists(30));
+        A.is("3 5 a later key is still soft", 15, () -> c.value(0, 0, 25));
+        A.is("3 5 the new one is hard", 0, () -> c.value(0, 0, 19));
+        c.unkey(0, 0, 10);
+        A.is("4 9 the artist of a later key", 1 << 1, () -> c.artists(20));
+        A.is("4 5 a later key is still soft", 15, () -> c.value(0, 0, 25));
+        A.is("4 5 the last key is still hard", 20, () -> c.value(0, 0, 119));
+        A.is("4 9 the artist of the last key", 1 << 2, () -> c.artists(119));
     }
 
     private static void value() {
@@ -623,6 +646,23 @@ public final class PromiseTests {
         A.is("18 19 9 is more than 8", 91, () -> c.heat(0));
         A.is("18 the other alone again", 1, () -> c.night(1));
         A.is("18 19 it rests no more at 5", 50, () -> c.heat(0));
+    }
+
+    private static void nightSellsTenOffers() {
+        KeyframeCourt c = new KeyframeCourt();
+        c.machine(1);
+        for (int number = 0; number < 10; number++) {
+            c.offer(20 - number, 1);
+        }
+        int earned = 0;
+        for (int number = 0; number < 4; number++) {
+            int due = earned += 20 - number;
+            A.is("18 an hour is sold", 1, () -> c.night(1));
+            A.is("18 23 the first has the highest price", due, () -> c.money(6));
+        }
+        A.is("18 the six others", 6, () -> c.night(24));
+        A.is("18 none has hours left", 0, () -> c.night(24));
+        A.is("23 all ten", 155, () -> c.money(6));
     }
 
     private static void heat() {
