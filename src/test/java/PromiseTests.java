@@ -39,24 +39,6 @@ public final class PromiseTests {
         A.close("PromiseTests");
     }
 
-    private static KeyframeCourt withBone() {
-        KeyframeCourt c = new KeyframeCourt();
-        c.bone(-1, 0, 0);
-        return c;
-    }
-
-    /** One bone, a film of all frames, all of them rendered, the machines cold. */
-    private static KeyframeCourt rendered() {
-        KeyframeCourt c = withBone();
-        c.cut(0, 0, 119);
-        c.machine(5);
-        c.machine(5);
-        for (int night = 0; night < 4; night++) {
-            c.night(24);
-        }
-        return c;
-    }
-
     private static void newObject() {
         KeyframeCourt c = new KeyframeCourt();
         A.isMissing("1 no bone", () -> c.value(0, 0, 0));
@@ -106,7 +88,7 @@ public final class PromiseTests {
     }
 
     private static void eightBones() {
-        KeyframeCourt c = withBone();
+        KeyframeCourt c = Courts.withRoots(1);
         for (int number = 1; number < 8; number++) {
             c.bone(number - 1, 1, 0);
         }
@@ -115,7 +97,7 @@ public final class PromiseTests {
         c.cut(0, 0, 4);
         c.machine(5);
         A.is("9 of eight bones", 1 << 4 | 1 << 2, () -> c.artists(0));
-        A.is("8 of the eighth", at(0, 7), () -> c.place(7, 119));
+        A.is("8 of the eighth", Courts.at(0, 7), () -> c.place(7, 119));
         A.is("18 with eight bones", 5000, () -> c.night(1));
         A.is("3 of the eighth", 5, () -> c.key(7, 2, 119, 0, 4, false) + c.key(7, 2, 0, 2, 4, false));
         A.is("15 of the eighth", 5, () -> c.voidsByAll());
@@ -140,7 +122,7 @@ public final class PromiseTests {
     }
 
     private static void key() {
-        KeyframeCourt c = withBone();
+        KeyframeCourt c = Courts.withRoots(1);
         A.isMissing("3 bone -1", () -> c.key(-1, 0, 0, 0, 0, false));
         A.isMissing("3 bone 1", () -> c.key(1, 0, 0, 0, 0, false));
         A.isMissing("3 bone highest", () -> c.key(HIGH, 0, 0, 0, 0, false));
@@ -173,7 +155,7 @@ public final class PromiseTests {
     }
 
     private static void keyLimit() {
-        KeyframeCourt c = withBone();
+        KeyframeCourt c = Courts.withRoots(1);
         for (int i = 0; i < 80; i++) {
             c.key(0, i % 2, i, i, 0, false);
         }
@@ -191,7 +173,7 @@ public final class PromiseTests {
     }
 
     private static void keyVoids() {
-        KeyframeCourt c = rendered();
+        KeyframeCourt c = Courts.rendered();
         A.is("3 key of 0 makes none void", 0, () -> c.key(0, 0, 50, 0, 0, false));
         A.is("3 all behind", 60, () -> c.key(0, 0, 60, 1, 0, false));
         A.is("3 less of them", -20, () -> c.key(0, 0, 100, 0, 0, false));
@@ -208,7 +190,7 @@ public final class PromiseTests {
     }
 
     private static void unkey() {
-        KeyframeCourt c = rendered();
+        KeyframeCourt c = Courts.rendered();
         A.isMissing("4 no key", () -> c.unkey(0, 0, 0));
         c.key(0, 0, 10, 8, 0, true);
         c.key(0, 0, 20, 0, 0, false);
@@ -241,7 +223,7 @@ public final class PromiseTests {
     }
 
     private static void otherKeysStayAsTheyAre() {
-        KeyframeCourt c = withBone();
+        KeyframeCourt c = Courts.withRoots(1);
         c.key(0, 0, 20, 10, 1, true);
         c.key(0, 0, 30, 20, 2, false);
         c.key(0, 0, 10, 0, 3, false);
@@ -257,7 +239,7 @@ public final class PromiseTests {
     }
 
     private static void value() {
-        KeyframeCourt c = withBone();
+        KeyframeCourt c = Courts.withRoots(1);
         A.is("5 without keys", 0, () -> c.value(0, 1, 119));
         c.key(0, 1, 10, -7, 0, true);
         A.is("5 ahead of the first", -7, () -> c.value(0, 1, 0));
@@ -294,7 +276,7 @@ public final class PromiseTests {
     }
 
     private static void span() {
-        KeyframeCourt c = withBone();
+        KeyframeCourt c = Courts.withRoots(1);
         c.bone(0, 0, 0);
         c.key(0, 1, 30, 1, 0, false);
         A.is("6 an only key has all", 119, () -> c.span(0, 1, 30));
@@ -326,7 +308,7 @@ public final class PromiseTests {
     }
 
     private static void keyAt() {
-        KeyframeCourt c = withBone();
+        KeyframeCourt c = Courts.withRoots(1);
         c.bone(0, 0, 0);
         c.key(1, 2, 119, 1, 0, false);
         c.key(1, 0, 5, 1, 0, false);
@@ -353,25 +335,25 @@ public final class PromiseTests {
         c.bone(0, 3, 4);
         c.bone(1, 1, 0);
         c.bone(-1, -100, -100);
-        A.is("8 a root", at(10, 20), () -> c.place(0, 0));
-        A.is("8 a child", at(13, 24), () -> c.place(1, 0));
-        A.is("8 a grandchild", at(14, 24), () -> c.place(2, 0));
+        A.is("8 a root", Courts.at(10, 20), () -> c.place(0, 0));
+        A.is("8 a child", Courts.at(13, 24), () -> c.place(1, 0));
+        A.is("8 a grandchild", Courts.at(14, 24), () -> c.place(2, 0));
         c.key(0, 2, 10, 1, 0, false);
         c.key(0, 2, 20, 2, 0, false);
         c.key(0, 2, 30, 3, 0, false);
         c.key(0, 2, 40, 0, 0, false);
-        A.is("8 its own turn moves not the root", at(10, 20), () -> c.place(0, 10));
-        A.is("8 a quarter", at(6, 23), () -> c.place(1, 10));
-        A.is("8 a half", at(7, 16), () -> c.place(1, 20));
-        A.is("8 three quarters", at(14, 17), () -> c.place(1, 30));
-        A.is("8 none", at(13, 24), () -> c.place(1, 40));
+        A.is("8 its own turn moves not the root", Courts.at(10, 20), () -> c.place(0, 10));
+        A.is("8 a quarter", Courts.at(6, 23), () -> c.place(1, 10));
+        A.is("8 a half", Courts.at(7, 16), () -> c.place(1, 20));
+        A.is("8 three quarters", Courts.at(14, 17), () -> c.place(1, 30));
+        A.is("8 none", Courts.at(13, 24), () -> c.place(1, 40));
         c.key(1, 2, 0, 3, 0, false);
-        A.is("8 headings add up, by 4", at(7, 23), () -> c.place(2, 10));
-        A.is("8 headings add up", at(7, 17), () -> c.place(2, 20));
+        A.is("8 headings add up, by 4", Courts.at(7, 23), () -> c.place(2, 10));
+        A.is("8 headings add up", Courts.at(7, 17), () -> c.place(2, 20));
         c.key(1, 0, 0, 100, 0, false);
         c.key(1, 1, 0, -50, 0, false);
-        A.is("8 values turn too", at(10 - 4 + 50, 20 + 103), () -> c.place(1, 10));
-        A.is("8 another root", at(-100, -100), () -> c.place(3, 119));
+        A.is("8 values turn too", Courts.at(10 - 4 + 50, 20 + 103), () -> c.place(1, 10));
+        A.is("8 another root", Courts.at(-100, -100), () -> c.place(3, 119));
         A.isMissing("8 bone 4", () -> c.place(4, 0));
         A.isMissing("8 bone -1", () -> c.place(-1, 0));
         A.isMissing("8 frame 120", () -> c.place(0, 120));
@@ -379,12 +361,8 @@ public final class PromiseTests {
         A.isMissing("8 both highest", () -> c.place(HIGH, HIGH));
     }
 
-    private static int at(int x, int y) {
-        return 10000 * (x + 5000) + y + 5000;
-    }
-
     private static void artists() {
-        KeyframeCourt c = withBone();
+        KeyframeCourt c = Courts.withRoots(1);
         c.bone(0, 0, 0);
         A.is("9 none", 0, () -> c.artists(0));
         c.key(0, 0, 10, 5, 0, true);
@@ -471,7 +449,7 @@ public final class PromiseTests {
     }
 
     private static void state() {
-        KeyframeCourt c = withBone();
+        KeyframeCourt c = Courts.withRoots(1);
         c.machine(1);
         A.is("13 not rendered", 0, () -> c.state(119));
         c.cut(0, 3, 4);
@@ -494,7 +472,7 @@ public final class PromiseTests {
     }
 
     private static void voids() {
-        KeyframeCourt c = rendered();
+        KeyframeCourt c = Courts.rendered();
         both(c, "14 15 none", 0);
         c.key(0, 0, 100, 5, 0, true);
         both(c, "14 15 all", 120);
@@ -563,7 +541,7 @@ public final class PromiseTests {
     }
 
     private static void nightRenders() {
-        KeyframeCourt c = withBone();
+        KeyframeCourt c = Courts.withRoots(1);
         c.cut(0, 50, 59);
         c.cut(1, 10, 12);
         A.isUnfit("18 hours 0", () -> c.night(0));
@@ -590,7 +568,7 @@ public final class PromiseTests {
     }
 
     private static void nightRests() {
-        KeyframeCourt c = withBone();
+        KeyframeCourt c = Courts.withRoots(1);
         c.cut(0, 0, 119);
         c.machine(5);
         A.is("18 four hours", 20000, () -> c.night(4));
@@ -613,7 +591,7 @@ public final class PromiseTests {
     }
 
     private static void nightSells() {
-        KeyframeCourt c = withBone();
+        KeyframeCourt c = Courts.withRoots(1);
         c.offer(5, 2);
         c.offer(9, 1);
         c.offer(9, 1);
@@ -689,7 +667,7 @@ public final class PromiseTests {
     }
 
     private static void seconds() {
-        KeyframeCourt c = withBone();
+        KeyframeCourt c = Courts.withRoots(1);
         c.key(0, 0, 24, 1, 1, false);
         c.key(0, 0, 48, 1, 2, true);
         c.key(0, 0, 60, 1, 3, false);
@@ -716,7 +694,7 @@ public final class PromiseTests {
     }
 
     private static void show() {
-        KeyframeCourt c = withBone();
+        KeyframeCourt c = Courts.withRoots(1);
         A.isNotNow("22 no film", () -> c.show());
         c.key(0, 0, 0, 0, 1, false);
         c.key(0, 1, 0, 0, 4, false);
@@ -778,7 +756,7 @@ public final class PromiseTests {
     }
 
     private static void refusalsChangeNothing() {
-        KeyframeCourt c = rendered();
+        KeyframeCourt c = Courts.rendered();
         c.key(0, 0, 60, 1, 0, true);
         c.setRate(3);
         A.isUnfit("a refused key", () -> c.key(0, 0, 60, 999, 1, false));
